@@ -508,7 +508,7 @@ public final class FlatTables {
     }
 
     private static int scalarBytes(int scalar) {
-        return isScalar(scalar) ? SCALAR_BYTES[scalar] : 1;
+        return scalar >= 0 && scalar < SCALAR_BYTES.length ? SCALAR_BYTES[scalar] : 1;
     }
 
     private static boolean isValue(int scalar, long v) {
@@ -781,15 +781,6 @@ public final class FlatTables {
             return n >= 0 && n < count && n < rows.length ? rows[n] : null;
         }
 
-        Definition named(long head, long tail) {
-            for (int i = 0; i < count && i < rows.length; i++) {
-                if (rows[i].nameHead == head && rows[i].nameTail == tail) {
-                    return rows[i];
-                }
-            }
-            return null;
-        }
-
         /** The new definition; null if it is one more than there may be. */
         Definition add(long head, long tail) {
             if (count < 0 || count >= rows.length) {
@@ -807,21 +798,40 @@ public final class FlatTables {
         final Group structs = new Group(STRUCT, MOST_STRUCTS, MOST_STRUCT_FIELDS);
         final Group tables = new Group(TABLE, MOST_TABLES, MOST_TABLE_FIELDS);
         final Group unions = new Group(UNION, MOST_UNIONS, MOST_MEMBERS);
+        // All of them as they stand, as their names are one row.
+        private final Definition[] definitions = new Definition[MOST_STRUCTS + MOST_TABLES + MOST_UNIONS];
+        private int definitionCount = 0;
         int root = NONE;
 
         void restart() {
             structs.count = 0;
             tables.count = 0;
             unions.count = 0;
+            definitionCount = 0;
             root = NONE;
         }
 
-        Definition named(long head, long tail) {
-            Definition found = structs.named(head, tail);
-            if (found == null) {
-                found = tables.named(head, tail);
+        /** The new definition; null if it is one more than there may be. */
+        Definition addTo(Group group, long head, long tail) {
+            if (definitionCount < 0 || definitionCount >= definitions.length) {
+                return null;
             }
-            return found == null ? unions.named(head, tail) : found;
+            Definition made = group.add(head, tail);
+            if (made != null) {
+                definitions[definitionCount] = made;
+                definitionCount++;
+            }
+            return made;
+        }
+
+        Definition named(long head, long tail) {
+            for (int i = 0; i < definitionCount && i < definitions.length; i++) {
+                Definition known = definitions[i];
+                if (known != null && known.nameHead == head && known.nameTail == tail) {
+                    return known;
+                }
+            }
+            return null;
         }
 
         /** Of what is stored of a sort: scalars and structs as they are, of others a reference. */
@@ -1117,10 +1127,6 @@ public final class FlatTables {
             return true;
         }
 
-        private Definition nameAtHand() {
-            return target.named(lexer.head(atHand), lexer.tail(atHand));
-        }
-
         private boolean readDefinition() {
             int word = kind;
             if (word != Lexer.STRUCT_WORD && word != Lexer.TABLE_WORD && word != Lexer.UNION_WORD) {
@@ -1141,11 +1147,11 @@ public final class FlatTables {
                 fail(GRAMMAR);
                 return null;
             }
-            if (nameAtHand() != null) {
+            if (target.named(lexer.head(atHand), lexer.tail(atHand)) != null) {
                 fail(TWICE);
                 return null;
             }
-            Definition made = group.add(lexer.head(atHand), lexer.tail(atHand));
+            Definition made = target.addTo(group, lexer.head(atHand), lexer.tail(atHand));
             if (made == null) {
                 fail(ONE_MORE);
                 return null;
@@ -1181,7 +1187,7 @@ public final class FlatTables {
                     return false;
                 }
             }
-            made.bytes = roundUp(made.bytes, made.alignment);
+            layOut(made);
             if (made.bytes > MOST_STRUCT_BYTES) {
                 return fail(TOO_GREAT);
             }
@@ -1198,7 +1204,7 @@ public final class FlatTables {
                 field.sort = SCALAR;
                 field.number = (int) lexer.head(atHand);
             } else if (kind == Lexer.NAME) {
-                Definition known = nameAtHand();
+                Definition known = target.named(lexer.head(atHand), lexer.tail(atHand));
                 if (known == null || known == made || known.sort != STRUCT) {
                     return fail(WRONG_NAME);
                 }
@@ -1207,16 +1213,21 @@ public final class FlatTables {
             } else {
                 return fail(GRAMMAR);
             }
-            layOut(made, field);
             advance();
             return true;
         }
 
-        private void layOut(Definition made, Field field) {
-            int alignment = target.alignmentOf(field.sort, field.number);
-            field.slot = roundUp(made.bytes, alignment);
-            made.bytes = field.slot + target.bytesOf(field.sort, field.number);
-            made.alignment = Math.max(made.alignment, alignment);
+        private void layOut(Definition made) {
+            for (int f = 0; f < made.fieldCount; f++) {
+                Field field = made.fieldAt(f);
+                if (field != null) {
+                    int alignment = target.alignmentOf(field.sort, field.number);
+                    field.slot = roundUp(made.bytes, alignment);
+                    made.bytes = field.slot + target.bytesOf(field.sort, field.number);
+                    made.alignment = Math.max(made.alignment, alignment);
+                }
+            }
+            made.bytes = roundUp(made.bytes, made.alignment);
         }
 
         /** Only behind the test of the struct's size, which keeps the leaves few. */
@@ -1243,16 +1254,13 @@ public final class FlatTables {
                 return false;
             }
             for (int i = 0; kind != '}' && i <= MOST_BYTES; i++) {
-                if (!readTableField(newField(made))) {
+                Field field = newField(made);
+                if (field == null || !expect(':') || !readType(field) || !readDefault(field)
+                        || !readRequired(field) || !expect(';')) {
                     return false;
                 }
             }
             return expect('}');
-        }
-
-        private boolean readTableField(Field field) {
-            return field != null && expect(':') && readType(field) && readDefault(field)
-                && readRequired(field) && expect(';');
         }
 
         private boolean readType(Field field) {
@@ -1737,9 +1745,10 @@ public final class FlatTables {
             if (table == null || !isList(p)) {
                 return false;
             }
+            int list = (int) bytes.listOf(p);
             for (int f = 0; f < table.fieldCount; f++) {
                 Field field = table.fieldAt(f);
-                if (field != null && !isField(p, field, depth)) {
+                if (field != null && !isField(p, list, field, depth)) {
                     return false;
                 }
             }
@@ -1759,28 +1768,27 @@ public final class FlatTables {
             return tableBytes >= 4 && p + tableBytes <= length || wrong(ROOM, list + 2);
         }
 
-        private boolean isField(int p, Field field, int depth) {
+        private boolean isField(int p, int list, Field field, int depth) {
             if (field.sort == UNION) {
-                return isUnion(p, field, depth);
+                return isUnion(p, list, field, depth);
             }
-            int place = bytes.storedAt(p, field.slot);
-            if (place == NONE) {
+            int number = bytes.slotNumber(list, field.slot);
+            if (number == 0) {
                 return !field.isRequired || wrong(MISSING, p);
             }
             int size = schema.bytesOf(field.sort, field.number);
             int alignment = schema.alignmentOf(field.sort, field.number);
-            if (!liesWell(p, field.slot, size, alignment)) {
+            if (!liesWell(p, list, field.slot, size, alignment)) {
                 return false;
             }
             if (field.sort == VECTOR) {
-                return isVector(place, field.elementSort, field.number, depth);
+                return isVector(p + number, field.elementSort, field.number, depth);
             }
-            return isContent(place, field.sort, field.number, depth);
+            return isContent(p + number, field.sort, field.number, depth);
         }
 
-        /** A slot that is there. */
-        private boolean liesWell(int p, int slot, int size, int alignment) {
-            int list = (int) bytes.listOf(p);
+        /** What a slot that is there tells of its place. */
+        private boolean liesWell(int p, int list, int slot, int size, int alignment) {
             int e = list + 4 + 2 * slot;
             int number = (int) bytes.number(e, 2);
             if (number < 4 || number + size > bytes.number(list + 2, 2)) {
@@ -1789,13 +1797,50 @@ public final class FlatTables {
             return isAligned(p + number, alignment) || wrong(ALIGN, e);
         }
 
+        private boolean isUnion(int p, int list, Field field, int depth) {
+            Definition union = schema.unions.at(field.number);
+            if (union == null) {
+                return false;
+            }
+            int number = bytes.slotNumber(list, field.slot);
+            if (number != 0 && !liesWell(p, list, field.slot, 1, 1)) {
+                return false;
+            }
+            int which = number == 0 ? 0 : bytes.octet(p + number);
+            if (which > union.fieldCount) {
+                return wrong(WRONG_UNION, p + number);
+            }
+            Field member = union.fieldAt(which - 1);
+            if (member == null) {
+                return isEmptyUnion(p, list, field);
+            }
+            return isMember(p, list, field.slot + 1, member.number, depth);
+        }
+
+        private boolean isEmptyUnion(int p, int list, Field field) {
+            int slot = field.slot + 1;
+            if (bytes.slotNumber(list, slot) != 0) {
+                return wrong(WRONG_UNION, list + 4 + 2 * slot);
+            }
+            return !field.isRequired || wrong(MISSING, p);
+        }
+
+        private boolean isMember(int p, int list, int slot, int table, int depth) {
+            int number = bytes.slotNumber(list, slot);
+            if (number == 0) {
+                return wrong(MISSING, p);
+            }
+            return liesWell(p, list, slot, REFERENCE_BYTES, REFERENCE_BYTES)
+                && isTable(p + number, table, depth + 1);
+        }
+
         /** What is stored at q, of a field or an element, but for vectors. */
         private boolean isContent(int q, int sort, int number, int depth) {
             switch (sort) {
                 case SCALAR:
-                    return isGoodScalar(q, number);
+                    return number != BOOL || bytes.octet(q) <= 1 || wrong(VALUE, q);
                 case TEXT:
-                    return isText(q);
+                    return isReference(q) && isText(bytes.behind(q));
                 case STRUCT:
                     return isStruct(q, schema.structs.at(number));
                 default:
@@ -1803,63 +1848,20 @@ public final class FlatTables {
             }
         }
 
-        private boolean isGoodScalar(int q, int scalar) {
-            return scalar != BOOL || bytes.octet(q) <= 1 || wrong(VALUE, q);
-        }
-
         private boolean isStruct(int q, Definition struct) {
             if (struct == null) {
                 return false;
             }
             for (int i = 0; i < struct.leafCount; i++) {
-                if (!isGoodScalar(q + struct.leafPlace(i), struct.leafScalar(i))) {
-                    return false;
+                int place = q + struct.leafPlace(i);
+                if (struct.leafScalar(i) == BOOL && bytes.octet(place) > 1) {
+                    return wrong(VALUE, place);
                 }
             }
             return true;
         }
 
-        private boolean isUnion(int p, Field field, int depth) {
-            Definition union = schema.unions.at(field.number);
-            if (union == null) {
-                return false;
-            }
-            int place = bytes.storedAt(p, field.slot);
-            if (place != NONE && !liesWell(p, field.slot, 1, 1)) {
-                return false;
-            }
-            int which = place == NONE ? 0 : bytes.octet(place);
-            if (which > union.fieldCount) {
-                return wrong(WRONG_UNION, place);
-            }
-            Field member = union.fieldAt(which - 1);
-            if (member == null) {
-                return isEmptyUnion(p, field);
-            }
-            return isMember(p, field.slot + 1, member.number, depth);
-        }
-
-        private boolean isEmptyUnion(int p, Field field) {
-            int slot = field.slot + 1;
-            if (bytes.storedAt(p, slot) != NONE) {
-                return wrong(WRONG_UNION, bytes.listOf(p) + 4 + 2 * slot);
-            }
-            return !field.isRequired || wrong(MISSING, p);
-        }
-
-        private boolean isMember(int p, int slot, int number, int depth) {
-            int place = bytes.storedAt(p, slot);
-            if (place == NONE) {
-                return wrong(MISSING, p);
-            }
-            return liesWell(p, slot, REFERENCE_BYTES, REFERENCE_BYTES) && isTable(place, number, depth + 1);
-        }
-
-        private boolean isText(int q) {
-            if (!isReference(q)) {
-                return false;
-            }
-            int place = bytes.behind(q);
+        private boolean isText(int place) {
             long end = place + 4 + bytes.number(place, 4);
             if (end + 1 > length) {
                 return wrong(LENGTH, place);

@@ -1,0 +1,121 @@
+import java.lang.reflect.Constructor;
+import java.lang.reflect.Field;
+import java.lang.reflect.Method;
+import java.lang.reflect.Modifier;
+import java.nio.file.Files;
+import java.nio.file.Path;
+import java.util.ArrayList;
+import java.util.Arrays;
+import java.util.List;
+import java.util.Set;
+import java.util.TreeSet;
+
+/** The public face is the document's, and what LANGUAGE.md rules out is not in the file. */
+public final class FaceTest {
+    private static final String[] FACE = {
+        "feed(int,int,int,int,int)int", "end(int)boolean", "schema()int IllegalArgumentException",
+        "fault(int)int", "size(int,int)int", "field(boolean,int,int,int)int", "standard(int,int)long",
+        "find(boolean,int)int", "push(long)int", "text()int IllegalStateException UnsupportedOperationException",
+        "vector(int,int)int IllegalStateException IllegalArgumentException UnsupportedOperationException",
+        "begin(int)void IllegalStateException NoSuchElementException",
+        "set(int)boolean IllegalStateException NoSuchElementException IllegalArgumentException"
+            + " UnsupportedOperationException",
+        "ready()int IllegalStateException UnsupportedOperationException",
+        "finish(int)int IllegalStateException IllegalArgumentException UnsupportedOperationException",
+        "clear()int", "out(int)int", "count(int)int",
+        "load(int)boolean IllegalArgumentException IllegalStateException", "node(int)int", "has(int)int",
+        "read(int)long NoSuchElementException", "into(int)int", "up()int", "write(int,long)boolean",
+        "byteAt(int)int"};
+
+    public static void main(String[] args) throws Exception {
+        theFace();
+        noOtherMembers();
+        theFile();
+        Check.end();
+    }
+
+    private static String simple(Class<?>[] types, String between) {
+        List<String> names = new ArrayList<>();
+        for (Class<?> type : types) {
+            names.add(type.getSimpleName());
+        }
+        return String.join(between, names);
+    }
+
+    private static void theFace() {
+        Set<String> due = new TreeSet<>(Arrays.asList(FACE));
+        Set<String> found = new TreeSet<>();
+        for (Method method : FlatTables.class.getDeclaredMethods()) {
+            if (!Modifier.isPrivate(method.getModifiers())) {
+                String thrown = simple(method.getExceptionTypes(), " ");
+                found.add(method.getName() + "(" + simple(method.getParameterTypes(), ",") + ")"
+                    + method.getReturnType().getSimpleName() + (thrown.isEmpty() ? "" : " " + thrown));
+                int modifiers = method.getModifiers();
+                Check.same(method.getName(), Modifier.PUBLIC, () -> modifiers);
+            }
+        }
+        Check.same("the methods", due, () -> found);
+        Check.same("the class", Modifier.PUBLIC | Modifier.FINAL, () -> FlatTables.class.getModifiers());
+        Constructor<?>[] made = FlatTables.class.getDeclaredConstructors();
+        Check.same("constructors", 1, () -> made.length);
+        Check.same("it is public", Modifier.PUBLIC, () -> made[0].getModifiers());
+        Check.same("it takes nothing", 0, () -> made[0].getParameterCount());
+        Check.same("NONE", -1, () -> FlatTables.NONE);
+    }
+
+    private static void noOtherMembers() {
+        Set<String> face = new TreeSet<>();
+        for (String method : FACE) {
+            face.add(method.substring(0, method.indexOf('(')));
+        }
+        for (Field field : FlatTables.class.getDeclaredFields()) {
+            boolean isNone = field.getName().equals("NONE");
+            Check.same(field.getName(), !isNone, () -> Modifier.isPrivate(field.getModifiers()));
+        }
+        List<Class<?>> all = new ArrayList<>(Arrays.asList(FlatTables.class.getDeclaredClasses()));
+        Check.same("classes", true, () -> all.size() <= 12);
+        for (Class<?> inner : all) {
+            Check.same(inner.getName(), true, () -> Modifier.isStatic(inner.getModifiers()));
+            for (Method method : inner.getDeclaredMethods()) {
+                Check.same(inner.getName() + "." + method.getName(), false, () -> face.contains(method.getName()));
+            }
+        }
+        all.add(FlatTables.class);
+        for (Class<?> each : all) {
+            int fields = 0;
+            for (Field field : each.getDeclaredFields()) {
+                boolean isStatic = Modifier.isStatic(field.getModifiers());
+                fields += isStatic ? 0 : 1;
+                if (isStatic) {
+                    Check.same(field.getName(), true, () -> Modifier.isFinal(field.getModifiers()));
+                }
+            }
+            int had = fields;
+            Check.same("few fields in " + each.getName(), true, () -> had <= 20);
+            for (Method method : each.getDeclaredMethods()) {
+                Check.same(each.getName() + "." + method.getName(), true, () -> method.getParameterCount() <= 7);
+                boolean isHidden = Modifier.isPrivate(method.getModifiers()) && face.contains(method.getName());
+                Check.same(method.getName() + " is no name of the face", false, () -> isHidden);
+            }
+        }
+    }
+
+    private static void theFile() throws Exception {
+        String file = Files.readString(Path.of("src/main/java/FlatTables.java"));
+        for (String word : new String[] {"->", "::", "try ", "catch", "finally", "assert", "synchronized",
+            "package ", "Exact(", "System.", "Object ", "@"}) {
+            Check.same("no " + word, false, () -> file.contains(word));
+        }
+        int imports = file.split("import ", -1).length - 1;
+        Check.same("imports", 1, () -> imports);
+        int longest = 0;
+        int length = 0;
+        for (String line : file.split("\n")) {
+            boolean isMember = line.matches("    (    )?\\S.*");
+            length = isMember ? 0 : length + 1;
+            longest = Math.max(longest, length);
+        }
+        int most = longest;
+        Check.same("methods are short", true, () -> most <= 60);
+    }
+}
