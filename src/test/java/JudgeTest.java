@@ -277,12 +277,29 @@ public final class JudgeTest {
         Check.same("at hand stays", 15, () -> x.node(4));
         // A table within itself.
         judged(x, bytes("0c000000 0600 0800 0400 0000 08000000 fcffffff"), 2, 16);
+        FlatTables z = Check.withSchema("table T{k:U;}union U{T}root T;");
+        chainOfUnions(z, 16);
+        Check.same("sixteen in unions", true, () -> z.load(1));
+        chainOfUnions(z, 17);
+        Check.same("seventeen in unions", false, () -> z.load(1));
+        Check.same("kind", 4, () -> z.fault(2));
         FlatTables y = Check.withSchema("table T{k:[T];}root T;");
         chainOfVectors(y, 16);
         Check.same("sixteen in vectors", true, () -> y.load(1));
         chainOfVectors(y, 17);
         Check.same("seventeen in vectors", false, () -> y.load(1));
         Check.same("kind", 4, () -> y.fault(2));
+    }
+
+    private static void chainOfUnions(FlatTables x, int tables) {
+        x.begin(0);
+        int last = x.ready();
+        for (int i = 1; i < tables; i++) {
+            x.begin(0);
+            Check.set(x, 0, 1, last);
+            last = x.ready();
+        }
+        x.finish(last);
     }
 
     private static void chainOfVectors(FlatTables x, int tables) {

@@ -8,6 +8,7 @@ public final class ReadTest {
         scalars();
         unions();
         deepest();
+        theLastBytes();
         writing();
         writingOverLists();
         bytes();
@@ -225,6 +226,27 @@ public final class ReadTest {
         Check.same("write", true, () -> x.write(0, 0));
         Check.same("the root", 0, () -> x.node(4));
         Check.same("up", -1, x::up);
+    }
+
+    /** What stands last in a buffer of 4000 bytes. */
+    private static void theLastBytes() {
+        FlatTables x = Check.withSchema("table T{v:[uint];t:text;}root T;");
+        Check.vector(x, 0, 6, 1, 4294967295L);
+        Check.tape(x, new byte[3959]);
+        x.text();
+        x.begin(0);
+        Check.set(x, 0, 0);
+        Check.set(x, 1, 1);
+        int thing = x.ready();
+        Check.same("finish", 4000, () -> x.finish(thing));
+        Check.same("load", true, () -> x.load(1));
+        x.into(0);
+        Check.same("read", 4294967295L, () -> x.read(1));
+        Check.same("write", true, () -> x.write(1, 0x04030201));
+        Check.same("byteAt", 4, () -> x.byteAt(3999));
+        Check.same("byteAt", -1, () -> x.byteAt(4000));
+        Check.same("out", 255, () -> x.out(3999));
+        Check.same("out", -1, () -> x.out(4000));
     }
 
     private static void writing() {

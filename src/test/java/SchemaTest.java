@@ -130,6 +130,7 @@ public final class SchemaTest {
         faultAt(3, "union U{A,B,", "A,$");
         faultAt(3, "table abcdefgh12345678{}table abcdefgh12345679{}table ", "abcdefgh12345679{}");
         good("struct a{a:int;}table b{a:a;b:b;}union c{b}root b;", 1);
+        good("table a23456789{}table b23456789{}table c234567890123456{}table d234567890123456{}root a23456789;", 4);
         good("table abcdefgh{}table abcdefgh1{}table h{}root h;", 3);
     }
 
@@ -247,6 +248,11 @@ public final class SchemaTest {
         FlatTables y = good(wide + "}table T{}root T;", 1);
         Check.same("made up to 128 bytes", 128, () -> y.size(5, 2));
         faultAt(8, wide + "g:long;", "}table T{}root T;");
+        String bools = "struct A{" + repeat(12, "f#:bool;") + "}struct B{" + repeat(8, "f#:bool;") + "}struct C{"
+            + repeat(10, "f#:A;") + "b:B;";
+        FlatTables z = good(bools + "}table T{}root T;", 1);
+        Check.same("128 bools", 128, () -> z.size(5, 2));
+        faultAt(8, bools + "c:bool;", "}");
         faultAt(8, sixteen + "struct B{" + repeat(8, "f#:A;") + "f8:bool;f9:bool;", "}");
     }
 
