@@ -1,9 +1,14 @@
 import java.nio.charset.StandardCharsets;
+import java.util.ArrayList;
+import java.util.List;
 
-/** What the tests have in common: compared answers, and short ways to fill the tape. */
+/** What the tests have in common: answers that are compared, and the sentences of the document they are for. */
 final class Check {
     private static int wrong = 0;
     private static int made = 0;
+    /** The sentences of the document that were looked at: a section's name, and the words. */
+    static final List<String[]> SENTENCES = new ArrayList<>();
+    private static int madeAtSentence = 0;
 
     private Check() {
     }
@@ -30,12 +35,34 @@ final class Check {
         String due = want instanceof Boolean ? ((Boolean) want ? "1" : "0") : String.valueOf(want);
         made++;
         if (!got.equals(due)) {
-            wrong++;
-            System.out.println(what + " answered " + got + ", due is " + due);
+            broken(what + " answered " + got + ", due is " + due);
         }
     }
 
+    /** What is compared from here on, up to the next sentence, would differ if this one did not hold. */
+    static void sentence(String section, String words) {
+        endSentence();
+        SENTENCES.add(new String[] {section, words});
+    }
+
+    private static void endSentence() {
+        if (!SENTENCES.isEmpty() && made == madeAtSentence) {
+            broken("nothing was compared");
+        }
+        madeAtSentence = made;
+    }
+
+    static void broken(String what) {
+        wrong++;
+        if (!SENTENCES.isEmpty()) {
+            String[] last = SENTENCES.get(SENTENCES.size() - 1);
+            System.out.println("[" + last[0] + ": " + last[1] + "]");
+        }
+        System.out.println(what);
+    }
+
     static void end() {
+        endSentence();
         System.out.println(made + " answers, " + wrong + " wrong");
         if (wrong != 0 || made == 0) {
             System.exit(1);
@@ -50,64 +77,6 @@ final class Check {
         byte[] bytes = new byte[numbers.length];
         for (int i = 0; i < numbers.length; i++) {
             bytes[i] = (byte) numbers[i];
-        }
-        return bytes;
-    }
-
-    /** The tape, empty so far, has these bytes then. */
-    static void tape(FlatTables x, byte[] bytes) {
-        for (int i = 0; i < bytes.length; i += 20) {
-            int[] numbers = new int[5];
-            for (int j = 0; j < 20; j++) {
-                int octet = i + j < bytes.length ? bytes[i + j] & 255 : 0;
-                numbers[j / 4] = numbers[j / 4] << 8 | octet;
-            }
-            x.feed(numbers[0], numbers[1], numbers[2], numbers[3], numbers[4]);
-        }
-        x.end(bytes.length);
-    }
-
-    static void tape(FlatTables x, String text) {
-        tape(x, bytesOf(text));
-    }
-
-    static FlatTables withSchema(String text) {
-        FlatTables x = new FlatTables();
-        tape(x, text);
-        x.schema();
-        return x;
-    }
-
-    static void pushAll(FlatTables x, long... values) {
-        for (long v : values) {
-            x.push(v);
-        }
-    }
-
-    static int text(FlatTables x, String text) {
-        tape(x, text);
-        return x.text();
-    }
-
-    static int vector(FlatTables x, int sort, int n, long... values) {
-        pushAll(x, values);
-        return x.vector(sort, n);
-    }
-
-    static boolean set(FlatTables x, int f, long... values) {
-        pushAll(x, values);
-        return x.set(f);
-    }
-
-    static boolean load(FlatTables x, byte[] bytes) {
-        tape(x, bytes);
-        return x.load(0);
-    }
-
-    static byte[] outOf(FlatTables x) {
-        byte[] bytes = new byte[x.count(5)];
-        for (int i = 0; i < bytes.length; i++) {
-            bytes[i] = (byte) x.out(i);
         }
         return bytes;
     }

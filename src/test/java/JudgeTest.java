@@ -35,9 +35,9 @@ public final class JudgeTest {
         return changed;
     }
 
-    private static void judged(FlatTables x, byte[] bytes, int kind, int place) {
+    private static void judged(Counted x, byte[] bytes, int kind, int place) {
         String what = Check.hex(bytes);
-        Check.same("load of " + what, kind == 0, () -> Check.load(x, bytes));
+        Check.same("load of " + what, kind == 0, () -> x.load(bytes));
         Check.same("kind in " + what, kind, () -> x.fault(2));
         Check.same("place in " + what, place, () -> x.fault(3));
         Check.same("the tape behind it", 0, () -> x.count(0));
@@ -46,7 +46,7 @@ public final class JudgeTest {
     private static final byte[] EMPTY = bytes("08000000 0400 0400 04000000");
 
     private static void shortOnes() {
-        FlatTables x = Check.withSchema("table E{}root E;");
+        Counted x = Counted.with("table E{}root E;");
         for (int n = 0; n < 4; n++) {
             judged(x, new byte[n], 1, 0);
         }
@@ -56,7 +56,7 @@ public final class JudgeTest {
     }
 
     private static void roots() {
-        FlatTables x = Check.withSchema("table E{}root E;");
+        Counted x = Counted.with("table E{}root E;");
         judged(x, EMPTY, 0, 0);
         judged(x, with(EMPTY, 0, 0), 2, 0);
         judged(x, with(EMPTY, 0, 9), 2, 0);
@@ -71,7 +71,7 @@ public final class JudgeTest {
     }
 
     private static void lists() {
-        FlatTables x = Check.withSchema("table E{}root E;");
+        Counted x = Counted.with("table E{}root E;");
         judged(x, with(EMPTY, 8, 9), 6, 8);
         judged(x, with(EMPTY, 8, 12), 6, 8);
         judged(x, with(EMPTY, 8, 5), 6, 8);
@@ -100,7 +100,7 @@ public final class JudgeTest {
     }
 
     private static void fields() {
-        FlatTables x = Check.withSchema("struct P{a:long;b:bool;}table T{i:int;b:byte;s:short;p:P;}root T;");
+        Counted x = Counted.with("struct P{a:long;b:bool;}table T{i:int;b:byte;s:short;p:P;}root T;");
         // The list at 4 (12 bytes), the table at 16: i at 20, b at 24, s at 26, 4 bytes 0, p at 32; t is 32.
         byte[] good = bytes("10000000 0c00 2000 0400 0800 0a00 1000 0c000000 01000000 02 00 0300 00000000"
             + "0400000000000000 01 00000000000000");
@@ -138,7 +138,7 @@ public final class JudgeTest {
     }
 
     private static void missing() {
-        FlatTables x = Check.withSchema("table T{a:text;b:text(required);c:bool;}root T;");
+        Counted x = Counted.with("table T{a:text;b:text(required);c:bool;}root T;");
         // The list at 4, the table at 16: a at 20, b at 24, c at 28; a text at 32.
         byte[] good = bytes("10000000 0a00 0d00 0400 0800 0c00 0000 0c000000 0c000000 08000000 01 000000"
             + "01000000 41 00");
@@ -156,9 +156,9 @@ public final class JudgeTest {
     private static void unions() {
         // The lists at 4 and 24, the tables at 12 and 28, which at 19, the reference at 20.
         byte[] good = bytes("0c000000 0800 0c00 0700 0800 08000000 000000 01 08000000 0400 0400 04000000");
-        FlatTables x = Check.withSchema("table T{u:U;}table E{}union U{E,T}root T;");
-        FlatTables y = Check.withSchema("table T{u:U(required);}table E{}union U{E,T}root T;");
-        for (FlatTables z : new FlatTables[] {x, y}) {
+        Counted x = Counted.with("table T{u:U;}table E{}union U{E,T}root T;");
+        Counted y = Counted.with("table T{u:U(required);}table E{}union U{E,T}root T;");
+        for (Counted z : new Counted[] {x, y}) {
             boolean isRequired = z == y;
             judged(z, good, 0, 0);
             Check.same("tables come to", 2, () -> z.count(8));
@@ -185,7 +185,7 @@ public final class JudgeTest {
     }
 
     private static void texts() {
-        FlatTables x = Check.withSchema("table T{a:text;b:[text];}root T;");
+        Counted x = Counted.with("table T{a:text;b:[text];}root T;");
         byte[] whole = bytes("0c000000 0800 0c00 0400 0800 08000000 20000000 04000000"
             + "02000000 0c000000 10000000 00000000 00000000 00000000 03000000 41424300");
         // The list at 4, the table at 12: a at 16, b at 20.
@@ -207,7 +207,7 @@ public final class JudgeTest {
     }
 
     private static void vectors() {
-        FlatTables x = Check.withSchema("table T{v:[long];}root T;");
+        Counted x = Counted.with("table T{v:[long];}root T;");
         byte[] good = bytes("0c000000 0600 0800 0400 0000 08000000 04000000 01000000 0807060504030201");
         judged(x, good, 0, 0);
         judged(x, with(good, 16, 8), 3, 24);
@@ -220,18 +220,18 @@ public final class JudgeTest {
         judged(x, with(good, 20, 255, 21, 255, 22, 255, 23, 255), 13, 20);
         judged(x, java.util.Arrays.copyOf(good, 31), 13, 20);
         judged(x, with(java.util.Arrays.copyOf(good, 24), 20, 0), 0, 0);
-        FlatTables y = Check.withSchema("table T{v:[short];}root T;");
+        Counted y = Counted.with("table T{v:[short];}root T;");
         judged(y, with(good, 16, 8), 13, 24);
         judged(y, with(good, 20, 4), 0, 0);
         judged(y, with(good, 20, 5), 13, 20);
-        FlatTables z = Check.withSchema("struct D{a:double;}table T{v:[D];}root T;");
+        Counted z = Counted.with("struct D{a:double;}table T{v:[D];}root T;");
         judged(z, good, 0, 0);
         judged(z, with(good, 16, 8, 24, 0), 3, 24);
         judged(z, with(good, 20, 2), 13, 20);
     }
 
     private static void valuesInStructsAndVectors() {
-        FlatTables x = Check.withSchema("struct P{a:short;b:bool;c:bool;}struct Q{a:bool;p:P;}"
+        Counted x = Counted.with("struct P{a:short;b:bool;c:bool;}struct Q{a:bool;p:P;}"
             + "table T{q:Q;v:[Q];b:[bool];}root T;");
         // The list at 4, the table at 16: q at 20, v at 28, b at 32; vectors at 36 and 52.
         byte[] good = bytes("10000000 0a00 1400 0400 0c00 1000 0000 0c000000 01 ff ffff 00 01 ffff"
@@ -248,19 +248,19 @@ public final class JudgeTest {
         judged(x, with(good, 20, 2, 4, 4), 0, 0);
     }
 
-    private static void chain(FlatTables x, int tables) {
+    private static void chain(Counted x, int tables) {
         x.begin(0);
         x.ready();
         for (int i = 1; i < tables; i++) {
             x.begin(0);
-            Check.set(x, 0, i - 1);
+            x.set(0, i - 1);
             x.ready();
         }
         x.finish(tables - 1);
     }
 
     private static void deep() {
-        FlatTables x = Check.withSchema("table T{k:T;}root T;");
+        Counted x = Counted.with("table T{k:T;}root T;");
         chain(x, 16);
         Check.same("sixteen", true, () -> x.load(1));
         Check.same("come to", 16, () -> x.count(8));
@@ -277,13 +277,13 @@ public final class JudgeTest {
         Check.same("at hand stays", 15, () -> x.node(4));
         // A table within itself.
         judged(x, bytes("0c000000 0600 0800 0400 0000 08000000 fcffffff"), 2, 16);
-        FlatTables z = Check.withSchema("table T{k:U;}union U{T}root T;");
+        Counted z = Counted.with("table T{k:U;}union U{T}root T;");
         chainOfUnions(z, 16);
         Check.same("sixteen in unions", true, () -> z.load(1));
         chainOfUnions(z, 17);
         Check.same("seventeen in unions", false, () -> z.load(1));
         Check.same("kind", 4, () -> z.fault(2));
-        FlatTables y = Check.withSchema("table T{k:[T];}root T;");
+        Counted y = Counted.with("table T{k:[T];}root T;");
         chainOfVectors(y, 16);
         Check.same("sixteen in vectors", true, () -> y.load(1));
         chainOfVectors(y, 17);
@@ -291,30 +291,30 @@ public final class JudgeTest {
         Check.same("kind", 4, () -> y.fault(2));
     }
 
-    private static void chainOfUnions(FlatTables x, int tables) {
+    private static void chainOfUnions(Counted x, int tables) {
         x.begin(0);
         int last = x.ready();
         for (int i = 1; i < tables; i++) {
             x.begin(0);
-            Check.set(x, 0, 1, last);
+            x.set(0, 1, last);
             last = x.ready();
         }
         x.finish(last);
     }
 
-    private static void chainOfVectors(FlatTables x, int tables) {
+    private static void chainOfVectors(Counted x, int tables) {
         x.begin(0);
         int last = x.ready();
         for (int i = 1; i < tables; i++) {
-            int vector = Check.vector(x, 3, 0, last);
+            int vector = x.vector(3, 0, last);
             x.begin(0);
-            Check.set(x, 0, vector);
+            x.set(0, vector);
             last = x.ready();
         }
         x.finish(last);
     }
 
-    private static void crowd(FlatTables x, int elements) {
+    private static void crowd(Counted x, int elements) {
         x.begin(1);
         x.ready();
         for (int i = 0; i < elements; i++) {
@@ -322,12 +322,12 @@ public final class JudgeTest {
         }
         x.vector(3, 1);
         x.begin(0);
-        Check.set(x, 0, 1);
+        x.set(0, 1);
         x.finish(x.ready());
     }
 
     private static void many() {
-        FlatTables x = Check.withSchema("table T{k:[E];}table E{}root T;");
+        Counted x = Counted.with("table T{k:[E];}table E{}root T;");
         crowd(x, 199);
         Check.same("two hundred", true, () -> x.load(1));
         Check.same("come to", 200, () -> x.count(8));
@@ -339,8 +339,8 @@ public final class JudgeTest {
     }
 
     private static void whatIsCalledWrongly() {
-        FlatTables x = new FlatTables();
-        Check.tape(x, "abcdef");
+        Counted x = new Counted();
+        x.tape("abcdef");
         Check.same("another from", "IllegalArgumentException", () -> x.load(2));
         Check.same("another from", "IllegalArgumentException", () -> x.load(-1));
         Check.same("the tape stays", 6, () -> x.count(0));
@@ -352,10 +352,10 @@ public final class JudgeTest {
     }
 
     private static void whatStays() {
-        FlatTables x = Check.withSchema("table T{a:int;t:text;}root T;");
-        Check.text(x, "xyz");
+        Counted x = Counted.with("table T{a:int;t:text;}root T;");
+        x.text("xyz");
         x.begin(0);
-        Check.set(x, 1, 0);
+        x.set(1, 0);
         x.finish(x.ready());
         x.load(1);
         x.into(1);
@@ -376,7 +376,7 @@ public final class JudgeTest {
         // The buffer is a copy: the out and the tape go their own ways.
         x.begin(0);
         x.finish(x.ready());
-        Check.tape(x, new byte[60]);
+        x.tape(new byte[60]);
         Check.same("a byte of it", 'y' + 0, () -> x.read(1));
     }
 }

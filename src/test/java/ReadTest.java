@@ -15,7 +15,7 @@ public final class ReadTest {
         Check.end();
     }
 
-    private static void nodes(String what, FlatTables x, int... due) {
+    private static void nodes(String what, Counted x, int... due) {
         for (int i = 0; i < due.length; i++) {
             int k = i;
             Check.same(what + ": node(" + k + ")", due[i], () -> x.node(k));
@@ -25,7 +25,7 @@ public final class ReadTest {
     }
 
     private static void withoutABuffer() {
-        FlatTables x = Check.withSchema("table T{a:int;}root T;");
+        Counted x = Counted.with("table T{a:int;}root T;");
         nodes("without", x, -1, -1, -1, -1, -1);
         Check.same("has", -1, () -> x.has(0));
         Check.same("read", NSE, () -> x.read(0));
@@ -40,37 +40,37 @@ public final class ReadTest {
         + "union U{E,T}root T;";
 
     /** A root (thing 9) with all of its fields. */
-    private static FlatTables built() {
-        FlatTables x = Check.withSchema(SCHEMA);
-        Check.text(x, "hey");
-        Check.text(x, "");
+    private static Counted built() {
+        Counted x = Counted.with(SCHEMA);
+        x.text("hey");
+        x.text("");
         x.begin(1);
-        Check.set(x, 1, 0);
-        Check.set(x, 0, 70000);
+        x.set(1, 0);
+        x.set(0, 70000);
         x.ready();
-        Check.vector(x, 2, 1, 1, -1, 258, 0, 7, -2);
-        Check.vector(x, 1, 0, 1, 0);
-        Check.vector(x, 3, 1, 2, 2);
-        Check.vector(x, 0, 4, 65535, 0, 9);
+        x.vector(2, 1, 1, -1, 258, 0, 7, -2);
+        x.vector(1, 0, 1, 0);
+        x.vector(3, 1, 2, 2);
+        x.vector(0, 4, 65535, 0, 9);
         x.begin(0);
         x.ready();
-        Check.vector(x, 3, 1);
+        x.vector(3, 1);
         x.begin(1);
-        Check.set(x, 1, 0);
-        Check.set(x, 2, 1, 5, -300);
-        Check.set(x, 3, 2);
-        Check.set(x, 4, 3);
-        Check.set(x, 5, 4);
-        Check.set(x, 6, 5);
-        Check.set(x, 7, 6);
-        Check.set(x, 8, 1, 7);
+        x.set(1, 0);
+        x.set(2, 1, 5, -300);
+        x.set(3, 2);
+        x.set(4, 3);
+        x.set(5, 4);
+        x.set(6, 5);
+        x.set(7, 6);
+        x.set(8, 1, 7);
         x.finish(x.ready());
         x.load(1);
         return x;
     }
 
     private static void walking() {
-        FlatTables x = built();
+        Counted x = built();
         int root = x.out(0);
         nodes("root", x, 1, 1, root, 9, 0);
         for (int k = -1; k < 10; k++) {
@@ -157,12 +157,12 @@ public final class ReadTest {
     }
 
     private static void scalars() {
-        FlatTables x = Check.withSchema("table T{a:bool;b:byte;c:ubyte;d:short;e:ushort;f:int;g:uint;h:long;i:ulong;"
+        Counted x = Counted.with("table T{a:bool;b:byte;c:ubyte;d:short;e:ushort;f:int;g:uint;h:long;i:ulong;"
             + "j:float;k:double;}root T;");
         long[] values = {1, -1, 255, -2, 65534, -3, 4294967293L, -4, -5, -1082130432L, 4607182418800017408L};
         x.begin(0);
         for (int f = 0; f < values.length; f++) {
-            Check.set(x, f, values[f]);
+            x.set(f, values[f]);
         }
         x.finish(x.ready());
         Check.same("load", true, () -> x.load(1));
@@ -173,7 +173,7 @@ public final class ReadTest {
     }
 
     private static void unions() {
-        FlatTables x = built();
+        Counted x = built();
         Check.same("which", 1, () -> x.read(8));
         Check.same("a union is not written", false, () -> x.write(8, 1));
         Check.same("into", 1, () -> x.into(8));
@@ -186,8 +186,8 @@ public final class ReadTest {
         Check.same("T", 1, () -> x.node(1));
         // Which is stored, and 0: there is no table.
         byte[] none = Check.bytesOf(0x0c, 0, 0, 0, 6, 0, 5, 0, 4, 0, 0, 0, 8, 0, 0, 0, 0);
-        FlatTables y = Check.withSchema("table T{u:U;}union U{T}root T;");
-        Check.same("load", true, () -> Check.load(y, none));
+        Counted y = Counted.with("table T{u:U;}union U{T}root T;");
+        Check.same("load", true, () -> y.load(none));
         Check.same("has", 0, () -> y.has(0));
         Check.same("read", 0, () -> y.read(0));
         Check.same("into", -1, () -> y.into(0));
@@ -199,15 +199,15 @@ public final class ReadTest {
         for (int i = 1; i < 12; i++) {
             text.append("struct S").append(i).append("{a:S").append(i - 1).append(";}");
         }
-        FlatTables x = Check.withSchema(text + "table T{k:[T];v:[S11];}root T;");
-        int v = Check.vector(x, 2, 11, 1);
+        Counted x = Counted.with(text + "table T{k:[T];v:[S11];}root T;");
+        int v = x.vector(2, 11, 1);
         x.begin(0);
-        Check.set(x, 1, v);
+        x.set(1, v);
         int last = x.ready();
         for (int i = 1; i < 16; i++) {
-            int vector = Check.vector(x, 3, 0, last);
+            int vector = x.vector(3, 0, last);
             x.begin(0);
-            Check.set(x, 0, vector);
+            x.set(0, vector);
             last = x.ready();
         }
         x.finish(last);
@@ -230,13 +230,13 @@ public final class ReadTest {
 
     /** What stands last in a buffer of 4000 bytes. */
     private static void theLastBytes() {
-        FlatTables x = Check.withSchema("table T{v:[uint];t:text;}root T;");
-        Check.vector(x, 0, 6, 1, 4294967295L);
-        Check.tape(x, new byte[3959]);
+        Counted x = Counted.with("table T{v:[uint];t:text;}root T;");
+        x.vector(0, 6, 1, 4294967295L);
+        x.tape(new byte[3959]);
         x.text();
         x.begin(0);
-        Check.set(x, 0, 0);
-        Check.set(x, 1, 1);
+        x.set(0, 0);
+        x.set(1, 1);
         int thing = x.ready();
         Check.same("finish", 4000, () -> x.finish(thing));
         Check.same("load", true, () -> x.load(1));
@@ -250,7 +250,7 @@ public final class ReadTest {
     }
 
     private static void writing() {
-        FlatTables x = built();
+        Counted x = built();
         Check.same("not stored", false, () -> x.write(0, 1));
         Check.same("a text", false, () -> x.write(1, 1));
         Check.same("a struct", false, () -> x.write(2, 1));
@@ -297,9 +297,9 @@ public final class ReadTest {
 
     /** The list lies in the table: a is how many bytes it has, b the second byte of where a is. */
     private static void writingOverLists() {
-        FlatTables x = Check.withSchema("table T{a:ushort;b:bool;}root T;");
+        Counted x = Counted.with("table T{a:ushort;b:bool;}root T;");
         byte[] bytes = Check.bytesOf(4, 0, 0, 0, 0xfc, 0xff, 0xff, 0xff, 8, 0, 12, 0, 4, 0, 9, 0);
-        Check.same("load", true, () -> Check.load(x, bytes));
+        Check.same("load", true, () -> x.load(bytes));
         Check.same("a", 8, () -> x.read(0));
         Check.same("b", 0, () -> x.read(1));
         Check.same("a would be elsewhere", false, () -> x.write(1, 1));
@@ -318,9 +318,9 @@ public final class ReadTest {
     }
 
     private static void bytes() {
-        FlatTables x = Check.withSchema("table T{}root T;");
+        Counted x = Counted.with("table T{}root T;");
         byte[] bytes = Check.bytesOf(8, 0, 0, 0, 4, 0, 4, 0, 4, 0, 0, 0, 200);
-        Check.load(x, bytes);
+        x.load(bytes);
         for (int i = 0; i < bytes.length; i++) {
             int k = i;
             Check.same("byteAt(" + k + ")", bytes[k] & 255, () -> x.byteAt(k));

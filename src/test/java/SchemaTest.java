@@ -16,8 +16,8 @@ public final class SchemaTest {
     }
 
     private static void fault(String text, int kind, int place) {
-        FlatTables x = new FlatTables();
-        Check.tape(x, text);
+        Counted x = new Counted();
+        x.tape(text);
         Check.same("schema of " + text, "IllegalArgumentException", x::schema);
         Check.same("kind in " + text, kind, () -> x.fault(0));
         Check.same("place in " + text, place, () -> x.fault(1));
@@ -29,9 +29,9 @@ public final class SchemaTest {
         fault(ahead + rest, kind, ahead.length());
     }
 
-    private static FlatTables good(String text, int tables) {
-        FlatTables x = new FlatTables();
-        Check.tape(x, text);
+    private static Counted good(String text, int tables) {
+        Counted x = new Counted();
+        x.tape(text);
         Check.same("schema of " + text, tables, x::schema);
         Check.same("kind in " + text, 0, () -> x.fault(0));
         Check.same("place in " + text, 0, () -> x.fault(1));
@@ -138,7 +138,7 @@ public final class SchemaTest {
         String structs = repeat(12, "struct S#{a:int;}");
         String tables = repeat(16, "table T#{}");
         String unions = repeat(8, "union U#{T0}");
-        FlatTables x = good(structs + tables + unions + "root T15;", 16);
+        Counted x = good(structs + tables + unions + "root T15;", 16);
         Check.same("structs", 12, () -> x.size(0, 0));
         Check.same("unions", 8, () -> x.size(2, 0));
         Check.same("root", 15, () -> x.size(3, 0));
@@ -183,12 +183,12 @@ public final class SchemaTest {
         // Only if there is nothing else.
         faultAt(2, "table T{a:X;}root T", "}");
         faultAt(7, "table T{a:X", "=5;}root T;");
-        FlatTables x = good("table T{a:S;b:U;c:[S];d:[V];}union U{T,V}struct S{a:bool;}table V{}root V;", 2);
+        Counted x = good("table T{a:S;b:U;c:[S];d:[V];}union U{T,V}struct S{a:bool;}table V{}root V;", 2);
         Check.same("root", 1, () -> x.size(3, 9));
     }
 
     private static void defaultOf(String scalar, String lowest, String highest, String below, String above) {
-        FlatTables x = good("table T{a:" + scalar + "=" + lowest + ";b:" + scalar + "=" + highest + ";}root T;", 1);
+        Counted x = good("table T{a:" + scalar + "=" + lowest + ";b:" + scalar + "=" + highest + ";}root T;", 1);
         Check.same("lowest of " + scalar, lowest, () -> x.standard(0, 0));
         Check.same("highest of " + scalar, highest, () -> x.standard(0, 1));
         if (below != null) {
@@ -209,7 +209,7 @@ public final class SchemaTest {
         defaultOf("uint", "0", "4294967295", "-1", "4294967296");
         defaultOf("long", "-999999999999999999", "999999999999999999", null, null);
         defaultOf("ulong", "0", "999999999999999999", "-1", null);
-        FlatTables x = good("table T{a:ulong=-0;b:int;c:text;d:float;}root T;", 1);
+        Counted x = good("table T{a:ulong=-0;b:int;c:text;d:float;}root T;", 1);
         for (int i = -1; i < 5; i++) {
             int f = i;
             Check.same("standard of " + f, 0, () -> x.standard(0, f));
@@ -229,7 +229,7 @@ public final class SchemaTest {
             faultAt(7, "table T{a:" + type, "(required);}");
             faultAt(7, "table T{a:" + type, "(x");
         }
-        FlatTables x = good("struct S{a:int;}union U{T}table T{a:text(required);b:[int](required);c:S(required);"
+        Counted x = good("struct S{a:int;}union U{T}table T{a:text(required);b:[int](required);c:S(required);"
             + "d:U(required);e:T(required);f:[T]( required );g:int;}root T;", 1);
         for (int i = 0; i < 7; i++) {
             int f = i;
@@ -240,24 +240,24 @@ public final class SchemaTest {
     private static void greatStructs() {
         String sixteen = "struct A{" + repeat(2, "f#:long;") + "}";
         String half = sixteen + "struct B{" + repeat(4, "f#:A;") + "}";
-        FlatTables x = good(half + "struct C{a:B;b:B;}table T{}root T;", 1);
+        Counted x = good(half + "struct C{a:B;b:B;}table T{}root T;", 1);
         Check.same("128 bytes", 128, () -> x.size(5, 2));
         faultAt(8, half + "struct C{a:B;b:B;c:bool;", "}$");
         // 121 bytes are made up to 128, so they are not too many; 129 would be.
         String wide = half + "struct C{a:B;b:A;c:A;d:A;e:long;f:bool;";
-        FlatTables y = good(wide + "}table T{}root T;", 1);
+        Counted y = good(wide + "}table T{}root T;", 1);
         Check.same("made up to 128 bytes", 128, () -> y.size(5, 2));
         faultAt(8, wide + "g:long;", "}table T{}root T;");
         String bools = "struct A{" + repeat(12, "f#:bool;") + "}struct B{" + repeat(8, "f#:bool;") + "}struct C{"
             + repeat(10, "f#:A;") + "b:B;";
-        FlatTables z = good(bools + "}table T{}root T;", 1);
+        Counted z = good(bools + "}table T{}root T;", 1);
         Check.same("128 bools", 128, () -> z.size(5, 2));
         faultAt(8, bools + "c:bool;", "}");
         faultAt(8, sixteen + "struct B{" + repeat(8, "f#:A;") + "f8:bool;f9:bool;", "}");
     }
 
     private static void sizesAndFields() {
-        FlatTables x = good("struct P{a:byte;b:short;c:bool;}struct Q{a:bool;p:P;d:double;e:ubyte;}"
+        Counted x = good("struct P{a:byte;b:short;c:bool;}struct Q{a:bool;p:P;d:double;e:ubyte;}"
             + "table A{a:U;b:ushort=9;c:[Q];d:[text](required);e:text;f:P;g:A;h:V;i:[A];j:[float];}"
             + "table B{}union U{A,B}union V{B}root B;", 2);
         int[][] sizes = {{0, 5, 2}, {1, 0, 2}, {2, 0, 2}, {3, 7, 1}, {4, 0, 3}, {4, 1, 4}, {5, 0, 6}, {5, 1, 24},
@@ -289,14 +289,14 @@ public final class SchemaTest {
         Check.same("no struct", -1, () -> x.field(true, 2, 0, 0));
     }
 
-    private static void find(FlatTables x, String name, boolean isStruct, int n, int due) {
-        Check.tape(x, name);
+    private static void find(Counted x, String name, boolean isStruct, int n, int due) {
+        x.tape(name);
         Check.same("find " + name, due, () -> x.find(isStruct, n));
         Check.same("the tape behind find", 0, () -> x.count(0));
     }
 
     private static void finding() {
-        FlatTables x = good("struct S{a:int;ab:int;}table T{a234567890123456:int;b:text;abcdefgh:S;abcdefghi:int;"
+        Counted x = good("struct S{a:int;ab:int;}table T{a234567890123456:int;b:text;abcdefgh:S;abcdefghi:int;"
             + "bb:bool;}root T;", 1);
         find(x, "a234567890123456", false, 0, 0);
         find(x, "a2345678901234567", false, 0, -1);
@@ -317,18 +317,18 @@ public final class SchemaTest {
         find(x, "a", true, 1, -1);
         find(x, "b", false, 1, -1);
         find(x, "b", false, -1, -1);
-        find(new FlatTables(), "b", false, 0, -1);
+        find(new Counted(), "b", false, 0, -1);
     }
 
     private static void whatStays() {
-        FlatTables x = good("table T{a:int;}root T;", 1);
-        Check.set(begun(x), 0, 5);
+        Counted x = good("table T{a:int;}root T;", 1);
+        begun(x).set(0, 5);
         x.finish(x.ready());
         x.load(1);
-        Check.text(x, "abc");
+        x.text("abc");
         x.begin(0);
         x.push(7);
-        Check.tape(x, "table U{}table V{}root W;");
+        x.tape("table U{}table V{}root W;");
         Check.same("a fault", "IllegalArgumentException", x::schema);
         Check.same("kind", 5, () -> x.fault(0));
         Check.same("place", 23, () -> x.fault(1));
@@ -340,7 +340,7 @@ public final class SchemaTest {
         Check.same("the schema stays", 1, () -> x.size(7, 0));
         Check.same("the node stays", 1, () -> x.node(0));
         find(x, "a", false, 0, 0);
-        Check.tape(x, "table U{}table V{}root V;");
+        x.tape("table U{}table V{}root V;");
         Check.same("another schema", 2, x::schema);
         int[] after = {0, 1, 0, 0, -1, 20, 0, 0, 1};
         for (int i = 0; i < after.length; i++) {
@@ -352,14 +352,14 @@ public final class SchemaTest {
         Check.same("the out stays", 12, () -> x.out(0));
         Check.same("root", 1, () -> x.size(3, 0));
         Check.same("no field", -1, () -> x.field(false, 0, 0, 0));
-        Check.tape(x, "struct S{a:int;}table T{b:S;}root T;");
+        x.tape("struct S{a:int;}table T{b:S;}root T;");
         Check.same("a third schema", 1, x::schema);
         Check.same("its fault", 0, () -> x.fault(0));
         find(x, "a", false, 0, -1);
         find(x, "b", false, 0, 0);
     }
 
-    private static FlatTables begun(FlatTables x) {
+    private static Counted begun(Counted x) {
         x.begin(0);
         return x;
     }

@@ -8,7 +8,7 @@ public final class TapeTest {
     }
 
     private static void aNewObject() {
-        FlatTables x = new FlatTables();
+        Counted x = new Counted();
         int[] counts = {0, 0, 0, 0, FlatTables.NONE, 0, 0, 0, 0, FlatTables.NONE};
         for (int i = 0; i < counts.length; i++) {
             int what = i;
@@ -36,13 +36,13 @@ public final class TapeTest {
     }
 
     private static void feeding() {
-        FlatTables x = new FlatTables();
+        Counted x = new Counted();
         Check.same("feed", 20, () -> x.feed(0x41424344, 0x45464748, 0x494a4b4c, 0x4d4e4f50, 0xff800001));
         Check.same("text", 0, x::text);
         Check.same("the tape is empty behind text()", 0, () -> x.count(0));
-        Check.tape(x, "table T{t:text;}root T;");
+        x.tape("table T{t:text;}root T;");
         x.schema();
-        Check.tape(x, new byte[0]);
+        x.tape(new byte[0]);
         x.feed(0x41424344, 0x45464748, 0x494a4b4c, 0x4d4e4f50, 0xff800001);
         x.text();
         x.begin(0);
@@ -61,7 +61,7 @@ public final class TapeTest {
     }
 
     private static void ending() {
-        FlatTables x = new FlatTables();
+        Counted x = new Counted();
         for (int i = 1; i <= 200; i++) {
             int has = 20 * i;
             Check.same("feed", has, () -> x.feed(1, 2, 3, 4, 5));
