@@ -731,6 +731,13 @@ public final class EdgesOfTapeAndSchemaTest {
         faultAt(3, "table " + NAME_OF_16 + "{}table ", NAME_OF_16 + "{}");
         good("table a23456789012345{}table " + NAME_OF_16 + "{}table A23456789012345{}root " + NAME_OF_16 + ";", 3);
         good("table a2345678{}table b2345678{}table a2345679{}table a{}root a;", 4);
+        // Names of 16 signs that differ in one of them.
+        String name = "abcdefghijklmnop";
+        for (int i = 0; i < 16; i++) {
+            String other = name.substring(0, i) + "_" + name.substring(i + 1);
+            good("table " + name + "{" + name + ":int;" + other + ":int;}table " + other + "{}root " + other + ";", 2);
+            faultAt(3, "table " + name + "{}table " + other + "{}table ", other + "{}");
+        }
         Check.sentence(SCHEMA, "of FIELDS in one DEFINITION,");
         faultAt(3, "struct S{a:int;b:int;", "a:int;}");
         faultAt(3, "struct S{a:int;b:int;", "b:int;}");
