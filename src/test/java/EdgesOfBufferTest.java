@@ -68,9 +68,8 @@ public final class EdgesOfBufferTest {
         Counted x = empties();
         accepted(x, EMPTY);
         Check.same("its bytes", "080000000400040004000000", x::bufferHex);
-        Check.sentence(BUFFER, "A REFERENCE is four bytes without a sign: how many bytes further on, from its own"
-            + " first byte,"
-            + " what it leads to begins.");
+        Check.sentence(BUFFER, "A REFERENCE is four bytes without a sign: how many bytes further on, from its own first"
+            + " byte, what it leads to begins.");
         Counted y = Counted.with("table T{t:text;}root T;");
         accepted(y, A_TEXT);
         y.into(0);
@@ -150,9 +149,8 @@ public final class EdgesOfBufferTest {
         Check.same("a", 21, () -> x.read(0));
         accepted(x, Raw.hex("04000000 f8ffffff 16000000 0600 0800 0400"));
         Check.same("a", 22, () -> x.read(0));
-        Check.sentence(BUFFER, "A LIST: two bytes, how many it has in all (v); two bytes, how many the TABLE has in"
-            + " all (t);"
-            + " then for SLOT 0, 1 .. two bytes each: how far from p on that is stored;");
+        Check.sentence(BUFFER, "A LIST: two bytes, how many it has in all (v); two bytes, how many the TABLE has in all"
+            + " (t); then for SLOT 0, 1 .. two bytes each: how far from p on that is stored;");
         byte[] both = Raw.hex("0c000000 0800 0a00 0400 0800 08000000 17000000 1800");
         accepted(x, both);
         Check.same("a, 4 from p on", 23, () -> x.read(0));
@@ -196,8 +194,8 @@ public final class EdgesOfBufferTest {
     }
 
     private static void whatIsStored() {
-        Check.sentence(BUFFER, "Stored are: SCALARS, STRUCTS as they are; WHICH one byte (1 is the first member);"
-            + " of all others a REFERENCE.");
+        Check.sentence(BUFFER, "Stored are: SCALARS, STRUCTS as they are; WHICH one byte (1 is the first member); of"
+            + " all others a REFERENCE.");
         Counted x = Counted.with("struct S{a:short;b:byte;}table T{a:short;s:S;t:text;v:[byte];k:E;u:U;}table E{}table"
             + " F{}"
             + "union U{E,F}root T;");
@@ -257,8 +255,7 @@ public final class EdgesOfBufferTest {
 
     private static void oneAheadOfTheNext() {
         Check.sentence(BUFFER, "TO JUDGE n bytes: from the root on, each thing wholly ahead of the next one, FIELD by"
-            + " FIELD,"
-            + " element by element; kind and place of the first that is wrong:");
+            + " FIELD, element by element; kind and place of the first that is wrong:");
         Counted x = Counted.with("table T{k:T;b:bool;v:[E];}table E{c:bool;d:bool;}root T;");
         // The list of T at 4 (10 bytes), that of E at 14 (8 bytes), 2 bytes 0; T at 24: k at 28, v at 32, b at 36;
         // its k at 40: v at 48, b at 52 (k is not there, by a list at 56); a vector at 68 with E at 80 and 88.
@@ -369,8 +366,7 @@ public final class EdgesOfBufferTest {
 
     private static void deep() {
         Check.sentence(BUFFER, "A TABLE, behind its REFERENCE at q (of the root q is 0): 4 DEEP at q: it would be the"
-            + " 17th TABLE"
-            + " within one another;");
+            + " 17th TABLE within one another;");
         Counted x = Counted.with("table T{k:T;}root T;");
         accepted(x, chain(1));
         accepted(x, chain(15));
@@ -488,8 +484,8 @@ public final class EdgesOfBufferTest {
     // ---- kinds 6 to 8
 
     private static void listsOutOfReach() {
-        Check.sentence(BUFFER, "Then, it being at p: 6 LIST at p: its LIST would begin ahead of 0, at an odd place,"
-            + " or with fewer than 4 bytes behind;");
+        Check.sentence(BUFFER, "Then, it being at p: 6 LIST at p: its LIST would begin ahead of 0, at an odd place, or"
+            + " with fewer than 4 bytes behind;");
         Counted x = empties();
         // At 0, where it can begin, its third byte is wrong.
         judged(x, Raw.with4(EMPTY, 8, 8), 8, 2);
@@ -552,8 +548,7 @@ public final class EdgesOfBufferTest {
 
     private static void missing() {
         Check.sentence(BUFFER, "Then by SLOTS, e being the place of its number in the LIST: What is not there and is"
-            + " required"
-            + " (no UNION): 9 MISSING at p.");
+            + " required (no UNION): 9 MISSING at p.");
         for (String type : new String[] {"text", "S", "E", "[int]", "[S]", "[text]", "[E]"}) {
             String schema = "struct S{a:int;}table E{}table T{a:int;b:" + type + "#;}root T;";
             Counted x = Counted.with(schema.replace("#", "(required)"));
@@ -615,8 +610,8 @@ public final class EdgesOfBufferTest {
     }
 
     private static void fieldsThatAreNotAligned() {
-        Check.sentence(BUFFER, "3 ALIGN at e: its place (p and the number) is not divisible by its ALIGNMENT"
-            + " (of a REFERENCE 4).");
+        Check.sentence(BUFFER, "3 ALIGN at e: its place (p and the number) is not divisible by its ALIGNMENT (of a"
+            + " REFERENCE 4).");
         String[] types = {"bool", "byte", "ubyte", "short", "ushort", "int", "uint", "float", "long", "ulong", "double",
             "S1", "S2", "S4", "S8"};
         int[] alignments = {1, 1, 1, 2, 2, 4, 4, 4, 8, 8, 8, 1, 2, 4, 8};
@@ -819,8 +814,7 @@ public final class EdgesOfBufferTest {
 
     private static void vectorsThatAreNotAligned() {
         Check.sentence(BUFFER, "A VECTOR, behind its REFERENCE: 3 ALIGN at it: what is behind the four bytes is at a"
-            + " place that"
-            + " is not divisible by its elements' ALIGNMENT;");
+            + " place that is not divisible by its elements' ALIGNMENT;");
         String[] types = {"bool", "short", "int", "float", "long", "ulong", "double", "S4", "S8"};
         int[] alignments = {1, 2, 4, 4, 8, 8, 8, 4, 8};
         for (int i = 0; i < types.length; i++) {

@@ -91,8 +91,7 @@ public final class EdgesOfBuildingTest {
 
     private static void aligned() {
         Check.sentence(BUILDING, "To put k bytes ALIGNED a: bytes 0 come ahead, as few as make what is there, and k,"
-            + " together"
-            + " divisible by a; then the k bytes.");
+            + " together divisible by a; then the k bytes.");
         Counted x = Counted.with("struct P{a:byte;b:byte;c:byte;}struct Q{a:byte;b:short;}struct R{a:long;b:byte;}"
             + "table T{a:byte;b:short;c:byte;d:int;e:int;f:byte;g:long;p:P;q:Q;h:byte;r:R;}root T;");
         // The row's memory has had other bytes before.
@@ -160,8 +159,7 @@ public final class EdgesOfBuildingTest {
 
     private static void references() {
         Check.sentence(BUILDING, "A REFERENCE to one is how many bytes there are from its own first byte on, less how"
-            + " many there are"
-            + " from that thing's first byte on.");
+            + " many there are from that thing's first byte on.");
         Counted x = Counted.with("table T{t:text;k:T;v:[T];w:[text];}root T;");
         x.text("abc");
         x.table(0, 0, 0);
@@ -277,8 +275,7 @@ public final class EdgesOfBuildingTest {
 
     private static void texts() {
         Check.sentence(BUILDING, "A TEXT of m bytes: bytes 0 come ahead, as few as make what is there, and m, and 1,"
-            + " together"
-            + " divisible by 4; then a 0; then the m bytes; then the four that tell m.");
+            + " together divisible by 4; then a 0; then the m bytes; then the four that tell m.");
         int[] rows = {8, 8, 8, 8, 12, 12, 12, 12, 16};
         // The row has 14 bytes before: a table with an int and its list.
         int[] behind = {20, 20, 24, 24, 24, 24, 28, 28, 28};
@@ -308,9 +305,8 @@ public final class EdgesOfBuildingTest {
     }
 
     private static void vectors() {
-        Check.sentence(BUILDING, "A VECTOR of m elements of SIZE s, ALIGNMENT a: bytes 0, as few as make what is"
-            + " there, and m * s,"
-            + " together divisible by 4 and by a;");
+        Check.sentence(BUILDING, "A VECTOR of m elements of SIZE s, ALIGNMENT a: bytes 0, as few as make what is there,"
+            + " and m * s, together divisible by 4 and by a;");
         // The scalar, how many, the row before (0, or 4 by an empty vector), the row behind.
         int[][] rows = {{0, 0, 0, 4}, {0, 1, 0, 8}, {0, 4, 0, 8}, {0, 5, 0, 12}, {3, 1, 0, 8}, {3, 2, 0, 8}, {3, 3,
             0, 12},
@@ -400,8 +396,7 @@ public final class EdgesOfBuildingTest {
 
     private static void ready() {
         Check.sentence(BUILDING, "ready(): four bytes ALIGNED 4, with which the TABLE begins (t is how many bytes came"
-            + " since begin(),"
-            + " with these);");
+            + " since begin(), with these);");
         Counted x = Counted.with("table T{a:byte;b:short;}root T;");
         // The row's memory has had other bytes before.
         x.textOf(100);
@@ -588,8 +583,7 @@ public final class EdgesOfBuildingTest {
 
     private static void finish() {
         Check.sentence(BUILDING, "finish(): the REFERENCE to the root TABLE is put ALIGNED by the greatest ALIGNMENT"
-            + " that was asked for"
-            + " in this ROW (at least 4): THE OUT is the ROW.");
+            + " that was asked for in this ROW (at least 4): THE OUT is the ROW.");
         Counted x = Counted.with("struct S{a:long;}struct R{a:int;}table T{a:long;s:S;r:R;b:byte;}root T;");
         root(x);
         Check.same("at least 4", 28, () -> x.finish(0));

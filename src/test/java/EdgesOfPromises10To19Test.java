@@ -332,9 +332,8 @@ public final class EdgesOfPromises10To19Test {
 
     private static void set() {
         Check.sentence("Promise 14", "FIELD f of the open TABLE is set by the VALUES: one of a SCALAR, as many as a"
-            + " STRUCT's SCALARS,"
-            + " one THING's number of a TEXT, TABLE, VECTOR (of just that sort and number),"
-            + " of a UNION WHICH (1 and more) and a THING's: whether it was put.");
+            + " STRUCT's SCALARS, one THING's number of a TEXT, TABLE, VECTOR (of just that sort and number), of a"
+            + " UNION WHICH (1 and more) and a THING's: whether it was put.");
         Counted x = Counted.with(FIELDS);
         x.text("");
         x.table(1);
@@ -740,8 +739,7 @@ public final class EdgesOfPromises10To19Test {
 
     private static void count() {
         Check.sentence("Promise 19", "What 0: bytes of THE TAPE, 1: VALUES, 2: bytes of the ROW, 3: THINGS, 4: the"
-            + " TABLE that is open (NONE),"
-            + " 5: bytes of THE OUT, 6: of THE BUFFER (0 without), 7: LISTS put in the ROW,"
+            + " TABLE that is open (NONE), 5: bytes of THE OUT, 6: of THE BUFFER (0 without), 7: LISTS put in the ROW,"
             + " 8: TABLES that were come to by the latest load() that accepted.");
         Counted x = Counted.with("table E{}table T{a:int;v:[E];}root T;");
         counts("a schema", x, 0, 0, 0, 0, -1, 0, 0, 0, 0);

@@ -27,8 +27,8 @@ public final class EdgesOfPromises1To9Test {
     }
 
     private static void fiveHundredAndTwelveCalls() {
-        Check.sentence("What it is", "An object is used for at most 512 calls after it has been made;"
-            + " what later calls answer is free.");
+        Check.sentence("What it is", "An object is used for at most 512 calls after it has been made; what later calls"
+            + " answer is free.");
         Counted x = new Counted();
         for (int i = 1; i < 512; i++) {
             x.push(i);
@@ -375,9 +375,8 @@ public final class EdgesOfPromises1To9Test {
 
     private static void size() {
         Check.sentence("Promise 6", "How many there are, what 0: STRUCTS, 1: TABLES, 2: UNIONS; 3: the root TABLE's"
-            + " number;"
-            + " of STRUCT n, 4: FIELDS, 5: SIZE, 6: ALIGNMENT; of TABLE n, 7: FIELDS, 8: SLOTS; of UNION n, 9:"
-                + " members.");
+            + " number; of STRUCT n, 4: FIELDS, 5: SIZE, 6: ALIGNMENT; of TABLE n, 7: FIELDS, 8: SLOTS; of UNION n, 9:"
+            + " members.");
         Counted x = Counted.with("struct A{a:byte;}struct B{a:short;b:A;c:int;d:bool;}table T{}table"
             + " V{a:U;b:int;c:W;}union U{V}"
             + "union W{T,V}table X{}root V;");
@@ -421,12 +420,10 @@ public final class EdgesOfPromises1To9Test {
 
     private static void field() {
         Check.sentence("Promise 7", "Of FIELD f of TABLE n (of STRUCT n, if isStruct), what 0: its sort: 0 SCALAR, 1"
-            + " TEXT, 2 STRUCT,"
-            + " 3 TABLE, 4 UNION, 5 VECTOR; 1: the number of the SCALAR, STRUCT, TABLE, UNION (of a VECTOR of that of"
-                + " its elements;"
-            + " of texts 0); 2: of a VECTOR the sort of its elements, else NONE; 3: its SLOT (of a UNION the first of"
-                + " its two;"
-            + " of a STRUCT's FIELD its place in it); 4: whether it is required (1, 0).");
+            + " TEXT, 2 STRUCT, 3 TABLE, 4 UNION, 5 VECTOR; 1: the number of the SCALAR, STRUCT, TABLE, UNION (of a"
+            + " VECTOR of that of its elements; of texts 0); 2: of a VECTOR the sort of its elements, else NONE; 3: its"
+            + " SLOT (of a UNION the first of its two; of a STRUCT's FIELD its place in it); 4: whether it is required"
+            + " (1, 0).");
         Counted x = Counted.with("struct A{a:byte;}struct B{a:bool;b:double;c:A;}table T{}"
             + "table V{a:W;b:ulong;c:text(required);d:B;e:V(required);f:[float];g:[text];h:[B](required);i:[V];j:U(required);}"
             + "union U{V}union W{T,V}root V;");

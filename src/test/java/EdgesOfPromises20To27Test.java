@@ -150,8 +150,7 @@ public final class EdgesOfPromises20To27Test {
 
     private static void load() {
         Check.sentence("Promise 20", "THE TAPE (from 0), or THE OUT (1), is judged: true, and it is THE BUFFER (a"
-            + " copy),"
-            + " the root TABLE at hand;");
+            + " copy), the root TABLE at hand;");
         Counted x = Counted.with("table T{a:int;t:text;}root T;");
         x.text("abc");
         x.begin(0);
@@ -248,10 +247,9 @@ public final class EdgesOfPromises20To27Test {
     }
 
     private static void node() {
-        Check.sentence("Promise 21", "Of the NODE at hand, what 0: 1 a TABLE, 2 a STRUCT, 3 a VECTOR, 4 a TEXT;"
-            + " 1: the number of the TABLE, STRUCT (of a VECTOR as field() tells, of a TEXT 0);"
-            + " 2: its place in THE BUFFER (of a VECTOR, TEXT that of its four bytes); 3: how many PARTS it has;"
-            + " 4: how many NODES are above it.");
+        Check.sentence("Promise 21", "Of the NODE at hand, what 0: 1 a TABLE, 2 a STRUCT, 3 a VECTOR, 4 a TEXT; 1: the"
+            + " number of the TABLE, STRUCT (of a VECTOR as field() tells, of a TEXT 0); 2: its place in THE BUFFER (of"
+            + " a VECTOR, TEXT that of its four bytes); 3: how many PARTS it has; 4: how many NODES are above it.");
         Counted x = Counted.with("struct R{a:int;}struct S{a:byte;b:byte;c:byte;}table E{}table"
             + " T{s:S;t:text;v:[S];w:[text];x:[E];y:[float];"
             + "u:U;}union U{T,E}root T;");

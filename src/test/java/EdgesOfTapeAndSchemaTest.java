@@ -147,8 +147,8 @@ public final class EdgesOfTapeAndSchemaTest {
     }
 
     private static void scalars() {
-        Check.sentence(TAPE, "SCALARS, told by numbers, with how many bytes they have: 0 bool 1, 1 byte 1, 2 ubyte 1,"
-            + " 3 short 2, 4 ushort 2, 5 int 4, 6 uint 4, 7 long 8, 8 ulong 8, 9 float 4, 10 double 8.");
+        Check.sentence(TAPE, "SCALARS, told by numbers, with how many bytes they have: 0 bool 1, 1 byte 1, 2 ubyte 1, 3"
+            + " short 2, 4 ushort 2, 5 int 4, 6 uint 4, 7 long 8, 8 ulong 8, 9 float 4, 10 double 8.");
         int[] bytes = {1, 1, 1, 2, 2, 4, 4, 8, 8, 4, 8};
         for (int i = 0; i < bytes.length; i++) {
             int scalar = i;
@@ -351,8 +351,8 @@ public final class EdgesOfTapeAndSchemaTest {
     }
 
     private static void keywords() {
-        Check.sentence(SCHEMA, "KEYWORDS, which are no NAMES: struct table union root required text,"
-            + " and the words for SCALARS.");
+        Check.sentence(SCHEMA, "KEYWORDS, which are no NAMES: struct table union root required text, and the words for"
+            + " SCALARS.");
         String[] words = {"struct", "table", "union", "root", "required", "text"};
         for (int i = 0; i < words.length + SCALARS.length; i++) {
             String word = i < words.length ? words[i] : SCALARS[i - words.length];
@@ -431,8 +431,7 @@ public final class EdgesOfTapeAndSchemaTest {
 
     private static void fieldsOfStructs() {
         Check.sentence(SCHEMA, "FIELD of a STRUCT: NAME : a word for a SCALAR, or the NAME of a STRUCT that stands"
-            + " ahead,"
-            + " ; .");
+            + " ahead, ; .");
         for (String word : SCALARS) {
             good("struct S{a:" + word + ";}table T{}root T;", 1);
         }
@@ -476,8 +475,8 @@ public final class EdgesOfTapeAndSchemaTest {
     }
 
     private static void types() {
-        Check.sentence(SCHEMA, "TYPE: a word for a SCALAR; text; the NAME of a STRUCT, TABLE or UNION;"
-            + " [ a word for a SCALAR, or text, or the NAME of a STRUCT or TABLE ] (a VECTOR).");
+        Check.sentence(SCHEMA, "TYPE: a word for a SCALAR; text; the NAME of a STRUCT, TABLE or UNION; [ a word for a"
+            + " SCALAR, or text, or the NAME of a STRUCT or TABLE ] (a VECTOR).");
         for (int i = 0; i < SCALARS.length; i++) {
             int scalar = i;
             Counted x = good("table T{a:" + SCALARS[i] + ";b:[" + SCALARS[i] + "];}root T;", 1);
@@ -572,8 +571,8 @@ public final class EdgesOfTapeAndSchemaTest {
     }
 
     private static void atMost() {
-        Check.sentence(SCHEMA, "At most 12 STRUCTS, 16 TABLES, 8 UNIONS; 12 FIELDS of a STRUCT, 16 of a TABLE,"
-            + " 8 members of a UNION.");
+        Check.sentence(SCHEMA, "At most 12 STRUCTS, 16 TABLES, 8 UNIONS; 12 FIELDS of a STRUCT, 16 of a TABLE, 8"
+            + " members of a UNION.");
         String structs = Raw.repeat(11, "struct S#{a:int;}") + "struct S11{" + Raw.repeat(12, "f#:byte;") + "}";
         String tables = Raw.repeat(15, "table T#{}") + "table T15{" + Raw.repeat(16, "f#:byte;") + "}";
         String unions = Raw.repeat(7, "union U#{T0}") + "union U7{T0,T1,T2,T3,T4,T5,T6,T15}";
@@ -846,9 +845,8 @@ public final class EdgesOfTapeAndSchemaTest {
     }
 
     private static void namesBehindAll() {
-        Check.sentence(SCHEMA, "Behind all that, if there is none: 5 the first NAME in a TABLE's TYPES, a UNION,"
-            + " behind root"
-            + " that is no DEFINITION,");
+        Check.sentence(SCHEMA, "Behind all that, if there is none: 5 the first NAME in a TABLE's TYPES, a UNION, behind"
+            + " root that is no DEFINITION,");
         faultAt(5, "table T{a:", "X;b:Y;}root Z;");
         faultAt(5, "table T{a:T;b:[", "X];}root Z;");
         faultAt(5, "table T{a:T;}union U{T,", "X}root Z;");
@@ -938,8 +936,7 @@ public final class EdgesOfTapeAndSchemaTest {
 
     private static void slots() {
         Check.sentence(SCHEMA, "SLOTS of a TABLE: each FIELD has the next one, from 0 on, a UNION's two: the first for"
-            + " WHICH"
-            + " (a ubyte), the second for its TABLE.");
+            + " WHICH (a ubyte), the second for its TABLE.");
         Counted x = good("table T{a:U;b:int;c:U;d:U;e:text;}table E{}union U{T,E}root T;", 2);
         int[] due = {0, 2, 3, 5, 7};
         for (int i = 0; i < due.length; i++) {
