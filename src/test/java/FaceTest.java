@@ -14,6 +14,7 @@ import java.util.regex.Pattern;
 
 /** The public face is the document's, and what LANGUAGE.md rules out is not in the file. */
 public final class FaceTest {
+    private static final Path DOCUMENT = Path.of("../shared/DOC.md");
     private static final String[] FACE = {
         "feed(int,int,int,int,int)int", "end(int)boolean", "schema()int IllegalArgumentException",
         "fault(int)int", "size(int,int)int", "field(boolean,int,int,int)int", "standard(int,int)long",
@@ -31,6 +32,7 @@ public final class FaceTest {
 
     public static void main(String[] args) throws Exception {
         theFace();
+        theDocumentsFace();
         noOtherMembers();
         theFile();
         Check.end();
@@ -63,6 +65,33 @@ public final class FaceTest {
         Check.same("it is public", Modifier.PUBLIC, () -> made[0].getModifiers());
         Check.same("it takes nothing", 0, () -> made[0].getParameterCount());
         Check.same("NONE", -1, () -> FlatTables.NONE);
+    }
+
+    /** That the list above is the document's; without the document there is nothing to compare. */
+    private static void theDocumentsFace() throws Exception {
+        if (!Files.exists(DOCUMENT)) {
+            System.out.println("there is no " + DOCUMENT + " to compare the face with");
+            return;
+        }
+        String document = Files.readString(DOCUMENT);
+        Matcher block = Pattern.compile("(?s)## The public face\\s+```java\n(.*?)```").matcher(document);
+        String face = block.find() ? block.group(1) : "";
+        Set<String> members = new TreeSet<>();
+        Matcher member = Pattern.compile("public (\\w+) (\\w+)\\(([^)]*)\\)(?: throws ([\\w, ]+))?;").matcher(face);
+        while (member.find()) {
+            String thrown = member.group(4) == null ? "" : " " + member.group(4).replace(",", "");
+            members.add(member.group(2) + "(" + member.group(3).replaceAll(" \\w+(,|$)", "$1").replace(" ", "") + ")"
+                + member.group(1) + thrown);
+        }
+        Check.same("the document's methods", new TreeSet<>(Arrays.asList(FACE)), () -> members);
+        Check.same("its other members", "[NONE = -1, FlatTables()]", () -> {
+            List<String> others = new ArrayList<>();
+            Matcher other = Pattern.compile("public (?:static final int (\\w+ = -?\\d+)|(\\w+\\(\\)));").matcher(face);
+            while (other.find()) {
+                others.add(other.group(1) == null ? other.group(2) : other.group(1));
+            }
+            return others;
+        });
     }
 
     /** Rules 1, 5 and 11; what they call "some" has room for a few more here. */
