@@ -628,9 +628,90 @@ public final class RandomRunsTest {
         }
     }
 
+    /** Bytes that no building makes: tables that lead to many others, far within one another. */
+    private void deep() {
+        readSchema("struct S{a:bool;b:int;c:bool;}union U{L,T}table T{a:T;v:[T];u:U;n:text;s:[S];k:bool;}"
+            + "table L{a:T;v:[L](required);}root T;");
+        while (goesOn()) {
+            int[] bytes = deepBytes(8 + random.nextInt(14));
+            tape(bytes);
+            load(0);
+            walk(12);
+            if (chance(50)) {
+                tape(spoilBytes(bytes));
+                load(0);
+                walk(6);
+            }
+        }
+    }
+
+    /** Each table has its list, itself (28 bytes), a vector, a text and a vector of structs, one behind the other. */
+    private int[] deepBytes(int tables) {
+        int[] places = new int[tables + 1];
+        int[] elements = new int[tables];
+        places[0] = 4;
+        for (int i = 0; i < tables; i++) {
+            elements[i] = chance(80) ? random.nextInt(3) : random.nextInt(30);
+            places[i + 1] = places[i] + 20 + 28 + 4 + 4 * elements[i] + 8 + 16;
+        }
+        int[] bytes = new int[Math.min(4000, places[tables])];
+        putNumber(bytes, 0, 4, places[0] + 20);
+        for (int i = 0; i < tables; i++) {
+            putTable(bytes, places, elements[i], i);
+        }
+        return bytes;
+    }
+
+    private void putTable(int[] bytes, int[] places, int elements, int i) {
+        int list = places[i];
+        int p = list + 20;
+        int[] offsets = {4, 8, 24, 12, 16, 20, 25};
+        int last = i == places.length - 2 ? 0 : 80;
+        boolean hasUnion = chance(last / 2);
+        boolean[] areThere = {chance(last), chance(last), hasUnion, hasUnion, chance(30), chance(30), chance(30)};
+        putNumber(bytes, list, 2, 18);
+        putNumber(bytes, list + 2, 2, 28);
+        for (int slot = 0; slot < offsets.length; slot++) {
+            putNumber(bytes, list + 4 + 2 * slot, 2, areThere[slot] ? offsets[slot] : 0);
+        }
+        int vector = p + 28;
+        int text = vector + 4 + 4 * elements;
+        putNumber(bytes, p, 4, 20);
+        putNumber(bytes, p + 4, 4, laterTable(places, i) - (p + 4));
+        putNumber(bytes, p + 8, 4, vector - (p + 8));
+        putNumber(bytes, p + 12, 4, laterTable(places, i) - (p + 12));
+        putNumber(bytes, p + 16, 4, text - (p + 16));
+        putNumber(bytes, p + 20, 4, text + 8 - (p + 20));
+        putNumber(bytes, p + 24, 1, chance(90) ? 2 : random.nextInt(4));
+        putNumber(bytes, p + 25, 1, chance(97) ? 1 : 2);
+        putNumber(bytes, vector, 4, elements);
+        for (int k = 0; k < elements; k++) {
+            int q = vector + 4 + 4 * k;
+            putNumber(bytes, q, 4, laterTable(places, i) - q);
+        }
+        putNumber(bytes, text, 4, 3);
+        putNumber(bytes, text + 8, 4, 1);
+        putNumber(bytes, text + 12, 1, chance(97) ? 1 : 2);
+    }
+
+    private int laterTable(int[] places, int i) {
+        int later = i + 1 + (chance(80) ? 0 : random.nextInt(3));
+        return places[Math.min(later, places.length - 2)] + 20;
+    }
+
+    private static void putNumber(int[] bytes, int place, int count, int number) {
+        for (int i = 0; i < count && place + i < bytes.length; i++) {
+            bytes[place + i] = number >> 8 * i & 255;
+        }
+    }
+
     private void play() {
         if (chance(15)) {
             wild();
+            return;
+        }
+        if (chance(5)) {
+            deep();
             return;
         }
         String text = chance(8) ? crowded() : makeSchema();
